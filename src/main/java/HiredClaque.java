@@ -242,51 +242,15 @@ public final class HiredClaque {
     }
 
     public int roomFor(int person, int n) {
-        if (!now.has(person) || !within(n, 1, SOUGHT_MOST)) {
-            return BAD;
-        }
-        int best = 0;
-        int most = -1;
-        for (int room = 0; room < ROOMS; room++) {
-            int pride = prideBehind(person, now.kind[person], now.ear[person], room, n);
-            if (pride > most) {
-                most = pride;
-                best = room;
-            }
-        }
-        return best;
+        return proudestBy(tried.room, ROOMS, person, n);
     }
 
     public int kindFor(int person, int n) {
-        if (!now.has(person) || !within(n, 1, SOUGHT_MOST)) {
-            return BAD;
-        }
-        int best = GUEST;
-        int most = -1;
-        for (int kind = GUEST; kind <= RIVAL; kind++) {
-            int pride = prideBehind(person, kind, now.ear[person], now.room[person], n);
-            if (pride > most) {
-                most = pride;
-                best = kind;
-            }
-        }
-        return best;
+        return proudestBy(tried.kind, RIVAL + 1, person, n);
     }
 
     public int earFor(int person, int n) {
-        if (!now.has(person) || !within(n, 1, SOUGHT_MOST)) {
-            return BAD;
-        }
-        int best = 0;
-        int most = -1;
-        for (int ear = 0; ear <= EAR_MOST; ear++) {
-            int pride = prideBehind(person, now.kind[person], ear, now.room[person], n);
-            if (pride > most) {
-                most = pride;
-                best = ear;
-            }
-        }
-        return best;
+        return proudestBy(tried.ear, EAR_MOST + 1, person, n);
     }
 
     public int begunFor(int person, int n) {
@@ -340,13 +304,23 @@ public final class HiredClaque {
         return NONE;
     }
 
-    private int prideBehind(int person, int kind, int ear, int room, int n) {
-        tryFromNow();
-        tried.kind[person] = kind;
-        tried.ear[person] = ear;
-        tried.room[person] = room;
-        tried.pass(n);
-        return tried.pride[person];
+    /** Which of the choices, tried as what one has now, brings it the greatest PRIDE. */
+    private int proudestBy(int[] triedOfEach, int choices, int person, int n) {
+        if (!now.has(person) || person >= triedOfEach.length || !within(n, 1, SOUGHT_MOST)) {
+            return BAD;
+        }
+        int best = 0;
+        int most = -1;
+        for (int choice = 0; choice < choices; choice++) {
+            tryFromNow();
+            triedOfEach[person] = choice;
+            tried.pass(n);
+            if (tried.pride[person] > most) {
+                most = tried.pride[person];
+                best = choice;
+            }
+        }
+        return best;
     }
 
     /** The fewest that bring one to clap by clapping, or, for NOBODY, all of them by being hired. */

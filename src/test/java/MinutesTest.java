@@ -7,6 +7,9 @@ public final class MinutesTest {
         seeds();
         byDraws();
         wrongBySeed();
+        oneAlone();
+        eight();
+        theGone();
         nobody();
         stir();
         state();
@@ -115,6 +118,53 @@ public final class MinutesTest {
         Due.eq("16 but drawn", y.seed(0), -1770082073);
     }
 
+    private static void oneAlone() {
+        HiredClaque x = new HiredClaque();
+        x.person(0, 0, 9, 0);
+        x.minute();
+        Due.eq("16 two draws for one alone", x.seed(1), -1770082073);
+    }
+
+    /** Eight in one room, each loud by 1 and clapping: each hears the seven others. */
+    private static void eight() {
+        HiredClaque x = new HiredClaque();
+        for (int p = 0; p < 8; p++) {
+            x.person(0, 10, 2, p == 7 ? 3 : 2);
+            x.clap(p, 1);
+        }
+        x.move(7, 2);
+        Due.eq("18 all clap", x.state(1), 255);
+        Due.eq("18 loud", x.state(3), 1008);
+        Due.eq("18 pride", x.state(2), 80);
+        Due.eq("18 ears", x.state(5), 16);
+        Due.eq("18 rooms", x.state(4), 4);
+        Due.eq("14 all hear the others", x.minutes(1), 8);
+        Due.eq("18 pride then", x.state(2), 80 + 8 * 7);
+        x.pride(7, 99);
+        Due.eq("44 the last is proud", x.many(3), 1);
+        Due.eq("13 all are there", x.room(2, 0), 255);
+        Due.eq("27 all by nobody", x.hiredFor(1), 0);
+    }
+
+    /** What those that are gone have left is nothing of what is now. */
+    private static void theGone() {
+        HiredClaque x = new HiredClaque();
+        x.person(0, 1, 1, 1);
+        x.keep();
+        x.person(0, 99, 9, 1);
+        x.clap(1, 1);
+        x.stir(1);
+        x.again();
+        Due.eq("18 rooms", x.state(4), 2);
+        Due.eq("18 pride", x.state(2), 1);
+        Due.eq("18 loud", x.state(3), 1000);
+        Due.eq("44 proud", x.many(3), 0);
+        Due.eq("8 nothing to hear", x.does(0, 2), 1000);
+        Due.eq("13 in 1", x.room(1, 0), 1);
+        x.move(0, 5);
+        Due.eq("18 rooms", x.state(4), 32);
+    }
+
     private static void nobody() {
         HiredClaque x = new HiredClaque();
         Due.eq("16 nobody", x.minute(), 0);
@@ -141,6 +191,14 @@ public final class MinutesTest {
         HiredClaque y = pair(99);
         y.clap(0, 1);
         Due.eq("17 by a minute one claps", y.stir(6), 0);
+        HiredClaque joining = new HiredClaque();
+        joining.person(0, 0, 0, 0);
+        Due.eq("17 not more than behind a minute", joining.stir(30), 0);
+        HiredClaque three = new HiredClaque();
+        three.person(0, 0, 0, 0);
+        three.person(0, 0, 1, 0);
+        three.set(3, 0);
+        Due.eq("17 each is tried from now", three.stir(5), 0);
     }
 
     private static void state() {

@@ -36,6 +36,8 @@ public final class RowsTest {
         Due.eq("32 of the third", x.prove(2, 3), 3);
         rowsAre(x, new int[][] {{97, 0, 1}, {98, 0, 3}, {99, 0, 3}});
         Due.eq("33 the fourth is gone", x.row(3, 0), -9);
+        Due.eq("32 one row", x.prove(1, 1), 1);
+        rowsAre(x, new int[][] {{20, 0, 1}});
         Due.eq("32 ten", x.prove(0, 10), 10);
         Due.eq("33 the tenth", x.row(9, 0), 18);
         Due.eq("33 an eleventh", x.row(10, 0), -9);

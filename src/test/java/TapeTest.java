@@ -5,6 +5,7 @@ public final class TapeTest {
         fullTape();
         wholeText();
         asAtFirst();
+        nobodyClapsFromBefore();
         whatStays();
         rightTexts();
         faults();
@@ -84,6 +85,14 @@ public final class TapeTest {
         Due.eq("3 state", x.state(1), 0);
     }
 
+    private static void nobodyClapsFromBefore() {
+        HiredClaque x = Due.told("guest in 0 claps; guest in 0 ear 0 claps; guest in 0 claps;");
+        x.clapping(0);
+        Due.tell(x, "guest in 0;");
+        Due.eq("3 opera", x.opera(), 1);
+        Due.eq("3 nobody claps", x.state(1), 0);
+    }
+
     private static void whatStays() {
         HiredClaque x = Due.told("guest in 0 ear 5; guest in 1;");
         x.seed(77);
@@ -109,7 +118,7 @@ public final class TapeTest {
         Due.opera("guest in 0;", 1);
         Due.opera("  guest   in   0   ;   ", 1);
         Due.opera("guest in0pride5ear6claps;wife in 1;", 2);
-        Due.opera("guest in 0 ear 0 claps;", 1);
+        Due.opera("guest in 0 pride 0 ear 0 claps;", 1);
         Due.opera("guest in 0 claps;", 1);
         Due.opera("guest in 007 pride 099 ear 009;", 1);
         Due.opera("pay 0;pay 9;cue 1;cue 9;wall 0;wall 9;wrong 0;wrong 99;", 0);
@@ -149,6 +158,11 @@ public final class TapeTest {
         Due.opera("pay -1;", -104);
         Due.opera("pay\t1;", -103);
         Due.opera("pay 1 2;", -106);
+        Due.opera("guest;", -105);
+        Due.opera("guest in;", -108);
+        Due.opera("guest in 0 pride;", -116);
+        Due.opera("guest in 0 ear;", -114);
+        Due.opera("pay;", -103);
         Due.opera("pay 1\n;", -105);
         Due.opera("guest in 0 \u00e9;", -111);
     }

@@ -187,6 +187,12 @@ public final class TriedTest {
         alone.person(0, 0, 1, 0);
         alone.clap(0, 1);
         Due.eq("26 it itself doesn't clap now", alone.begunFor(0, 2), -3);
+        HiredClaque echo = new HiredClaque();
+        echo.person(1, 30, 9, 0);
+        echo.person(3, 0, 3, 0);
+        echo.clap(0, 1);
+        Due.eq("26 by itself it would", echo.clapping(2) & 1, 1);
+        Due.eq("26 but others are asked for", echo.begunFor(0, 2), -3);
         Due.eq("26 behind 20", followed().begunFor(1, 20), 0);
         Due.eq("26 n 0", x.begunFor(0, 0), -1);
         Due.eq("26 n 21", x.begunFor(0, 21), -1);
