@@ -1064,10 +1064,10 @@ public final class HiredClaque {
                 return END;
             }
             byte b = bytes[place];
-            if (within(b, 'a', 'z')) {
+            if ('a' <= b && b <= 'z') {
                 return NAME;
             }
-            return within(b, '0', '9') ? NUMBER : SIGN;
+            return '0' <= b && b <= '9' ? NUMBER : SIGN;
         }
     }
 
