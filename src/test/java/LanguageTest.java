@@ -4,7 +4,9 @@ import java.lang.reflect.Method;
 import java.lang.reflect.Modifier;
 import java.nio.file.Files;
 import java.nio.file.Path;
+import java.util.Map;
 import java.util.Set;
+import java.util.TreeMap;
 import java.util.TreeSet;
 import java.util.regex.Matcher;
 import java.util.regex.Pattern;
@@ -19,7 +21,9 @@ public final class LanguageTest {
         nothingElseIsSeen();
         namesOfTheFaceAreTheFaces();
         constants();
-        wordsOfTheSource(withoutComments(Files.readString(SOURCE)));
+        String source = withoutComments(Files.readString(SOURCE));
+        wordsOfTheSource(source);
+        sizes(source);
         Due.end();
     }
 
@@ -63,13 +67,23 @@ public final class LanguageTest {
         }
         Class<?>[] inside = HiredClaque.class.getDeclaredClasses();
         Due.eq("rule 11: classes", inside.length <= 12 ? 0 : inside.length, 0);
+        fields(HiredClaque.class);
         for (Class<?> one : inside) {
+            fields(one);
             Due.eq("rule 2: static " + one, Modifier.isStatic(one.getModifiers()) ? 1 : 0, 1);
             Due.eq("rule 1: not public " + one, one.getModifiers() & (Modifier.PUBLIC | Modifier.PROTECTED), 0);
             for (Field field : one.getDeclaredFields()) {
                 staticIsFinal(field);
             }
         }
+    }
+
+    private static void fields(Class<?> one) {
+        int count = 0;
+        for (Field field : one.getDeclaredFields()) {
+            count += Modifier.isStatic(field.getModifiers()) ? 0 : 1;
+        }
+        Due.eq("rule 11: fields of " + one, count <= 20 ? 0 : count, 0);
     }
 
     private static void seen(String what, int modifiers) {
@@ -90,19 +104,66 @@ public final class LanguageTest {
             if (!Modifier.isPublic(method.getModifiers())) {
                 Due.eq("rule 1: name of " + method, face.contains(method.getName()) ? 1 : 0, 0);
             }
+            parameters(method);
         }
         for (Class<?> one : HiredClaque.class.getDeclaredClasses()) {
             for (Method method : one.getDeclaredMethods()) {
                 Due.eq("rule 1: name of " + method, face.contains(method.getName()) ? 1 : 0, 0);
-                Due.eq("rule 11: parameters of " + method, method.getParameterCount() <= 7 ? 0 : 1, 0);
+                parameters(method);
             }
         }
+    }
+
+    private static void parameters(Method method) {
+        Due.eq("rule 11: parameters of " + method, method.getParameterCount() <= 7 ? 0 : 1, 0);
     }
 
     private static void constants() {
         Due.eq("BAD", HiredClaque.BAD, -1);
         Due.eq("FULL", HiredClaque.FULL, -2);
         Due.eq("NONE", HiredClaque.NONE, -3);
+    }
+
+    /** Rule 11 by the source: its methods are found by their heads and the brackets that close them. */
+    private static void sizes(String source) {
+        Map<String, String> bodies = new TreeMap<>();
+        int found = 0;
+        Matcher heads = Pattern.compile("(?m)^( +)[\\w\\[\\] ]*?(\\w+)\\([^()]*\\) \\{\n((?s:.*?\n)??)\\1\\}$").matcher(source);
+        while (heads.find()) {
+            long lines = heads.group().lines().count();
+            Due.eq("rule 11: lines of " + heads.group(2), lines <= 60 ? 0 : lines, 0);
+            bodies.merge(heads.group(2), heads.group(3), String::concat);
+            found += Character.isLowerCase(heads.group(2).charAt(0)) ? 1 : 0;
+        }
+        int methods = HiredClaque.class.getDeclaredMethods().length;
+        for (Class<?> one : HiredClaque.class.getDeclaredClasses()) {
+            methods += one.getDeclaredMethods().length;
+        }
+        Due.eq("methods found in the source", found, methods);
+        for (String name : bodies.keySet()) {
+            int deep = depth(name, bodies, new TreeSet<>());
+            Due.eq("rule 11: calls from " + name, deep <= 8 ? 0 : deep, 0);
+        }
+    }
+
+    /** How many methods are open at once, at most, by their names alone; rule 8: only run calls itself. */
+    private static int depth(String name, Map<String, String> bodies, Set<String> open) {
+        open.add(name);
+        int most = 0;
+        Matcher calls = Pattern.compile("\\b(\\w+)\\(").matcher(bodies.get(name));
+        while (calls.find()) {
+            String called = calls.group(1);
+            if (!bodies.containsKey(called)) {
+                continue;
+            }
+            if (open.contains(called)) {
+                Due.eq("rule 8: " + name + " calls " + called, called.equals("run") && name.equals("run") ? 0 : 1, 0);
+            } else {
+                most = Math.max(most, depth(called, bodies, open));
+            }
+        }
+        open.remove(name);
+        return 1 + most;
     }
 
     private static String withoutComments(String source) {
@@ -113,6 +174,7 @@ public final class LanguageTest {
         absent(source, "rule 6", "\\b(throws?|try|catch|finally|synchronized|assert|instanceof|equals|hashCode|toString)\\b");
         absent(source, "rule 2", "->|::|\\bnew\\s+\\w+\\s*\\([^)]*\\)\\s*\\{");
         absent(source, "rules 3 and 4", "\\b(import|package|var|Object|double|float|List|Thread|Random|native|volatile)\\b");
+        absent(source, "rule 4: signs", "[^\\x01-\\x7f]");
         absent(source, "rule 5", "\\bstatic\\s*\\{");
         Matcher calls = Pattern.compile("\\b([A-Z][a-z]\\w*)\\.(\\w+)").matcher(source);
         Set<String> library = Set.of("Integer.bitCount", "Math.max", "Math.min", "System.arraycopy");

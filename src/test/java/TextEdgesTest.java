@@ -17,6 +17,7 @@ public final class TextEdgesTest {
         moreDigits();
         defaults();
         namesAsLongAsTheyGo();
+        everyByteBehindAName();
         numbersAsLongAsTheyGo();
         blanksPart();
         blanksElsewhere();
@@ -221,6 +222,16 @@ public final class TextEdgesTest {
         Due.opera("guest in 0 clap;", -111);
         Due.opera("paypay 3;", -100);
         Due.opera("guest in 0;guestin 0;", -111);
+    }
+
+    /** Just the letters a to z go on with a NAME; any other byte ends it, and is told by its own place. */
+    private static void everyByteBehindAName() {
+        for (int b = 0; b < 256; b++) {
+            boolean letter = 'a' <= b && b <= 'z';
+            boolean fine = b == ' ' || b == '0';
+            Due.opera("pay" + (char) b + "3;", fine ? 0 : letter ? -100 : -103);
+            Due.opera("guest in 1 ear" + (char) b + "3;", fine ? 1 : letter ? -111 : -114);
+        }
     }
 
     private static void numbersAsLongAsTheyGo() {

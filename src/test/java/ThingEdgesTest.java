@@ -33,6 +33,7 @@ public final class ThingEdgesTest {
         manyAtTheEnds();
         keptAndAgain();
         keptIsNotWhatIsNow();
+        theGoneByOpera();
         Due.end();
     }
 
@@ -508,6 +509,31 @@ public final class ThingEdgesTest {
                 Due.eq("46 state " + what, x.state(what), due[what]);
             }
             Due.eq("46 z", x.seed(5), LEAST);
+        }
+    }
+
+    /** Eight that are gone by a TEXT of fewer leave nothing behind, in what is asked of all together. */
+    private static void theGoneByOpera() {
+        for (int there = 0; there < 8; there++) {
+            HiredClaque x = new HiredClaque();
+            for (int p = 0; p < 8; p++) {
+                x.person(CHIEF, 99, 9, 7);
+                x.clap(p, 1);
+            }
+            x.clapping(0);
+            Due.tell(x, "wife in 2 pride 3 ear 4;".repeat(there));
+            Due.eq("3 fewer", x.opera(), there);
+            int[] due = {0, 0, 3 * there, 1000, there == 0 ? 0 : 4, 4 * there};
+            for (int what = 0; what < 6; what++) {
+                Due.eq("18 state " + what + " of " + there, x.state(what), due[what]);
+            }
+            int[] many = {there, 0, there == 0 ? 0 : 1, 0};
+            for (int what = 0; what < 4; what++) {
+                Due.eq("44 many " + what + " of " + there, x.many(what), many[what]);
+            }
+            Due.eq("13 in 7", x.room(7, 0), 0);
+            Due.eq("13 in 2", x.room(2, 0), (1 << there) - 1);
+            Due.eq("7 no such one", x.of(there, 0), -1);
         }
     }
 }

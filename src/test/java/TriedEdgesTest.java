@@ -15,9 +15,11 @@ public final class TriedEdgesTest {
         leastRoom();
         leastKind();
         leastEar();
+        earsToNineAlone();
         wereItThereNow();
         begunByFewest();
         begunByNobodyElse();
+        begunNotByItself();
         begunLeastOfSeveral();
         begunBySevenOthers();
         hiredFewest();
@@ -30,6 +32,7 @@ public final class TriedEdgesTest {
         fitsWideNumbers();
         stirMoreThanAMinute();
         stirGoesOnByZ();
+        stirFromZAsItIsNow();
         oddsByAll();
         oddsTogetherAreOne();
         hopeByAll();
@@ -199,6 +202,26 @@ public final class TriedEdgesTest {
         Due.eq("Terms 2: held at 99", x.earFor(0, 2), 0);
     }
 
+    /**
+     * A hand that claps on and on brings one to hear 9: with each EAR it claps then, which wakes a rival. With an EAR
+     * of 10 it would stay quiet, and be prouder behind 3 MINUTES.
+     */
+    private static void earsToNineAlone() {
+        HiredClaque x = guests(5);
+        x.set(0, 8);
+        x.set(1, 1);
+        add(x, HAND, 0, 0, 1);
+        add(x, RIVAL, 7, 0, 0);
+        for (int ear = 0; ear <= 9; ear++) {
+            x.mind(0, GUEST, ear);
+            x.keep();
+            x.minutes(3);
+            Due.eq("Terms 2: pride by ear " + ear, x.of(0, 1), 9 + 9 + 6);
+            x.again();
+        }
+        Due.eq("Terms 2: of ears 0 to 9 the least", x.earFor(0, 3), 0);
+    }
+
     /** It is there, so, with that ear from now on, not behind the MINUTES; the answer is by the last of them. */
     private static void wereItThereNow() {
         HiredClaque x = new HiredClaque();
@@ -252,6 +275,20 @@ public final class TriedEdgesTest {
         Due.eq("Terms 2: but it doesn't, nor is it an other", self.begunFor(0, 2), -3);
         Due.eq("Terms 2: behind one by the other", self.begunFor(0, 1), 2);
         Due.eq("Terms 2: the last of the two", self.begunFor(1, 1), 1);
+    }
+
+    /** By its own clapping now one would bring a second to clap, and so itself: but it is no other. */
+    private static void begunNotByItself() {
+        for (int self = 0; self < 8; self++) {
+            HiredClaque x = new HiredClaque();
+            for (int p = 0; p < 8; p++) {
+                x.person(GUEST, 0, p == self ? 1 : p == (self + 1) % 8 ? 1 : 9, p == self || p == (self + 1) % 8 ? 0 : 4);
+            }
+            x.clap(self, 1);
+            Due.eq("Terms 2: by its own clapping", x.clapping(2) >> self & 1, 1);
+            Due.eq("Terms 2: no others bring it to that", x.begunFor(self, 2), -3);
+            Due.eq("Terms 2: the other does behind 1", x.begunFor(self, 1), 1 << (self + 1) % 8);
+        }
     }
 
     private static void begunLeastOfSeveral() {
@@ -422,6 +459,27 @@ public final class TriedEdgesTest {
             }
             Due.eq("Terms 2: z is as it was", x.seed(0), seed * 77);
         }
+    }
+
+    /** Whatever z was at first, or is kept. If the first of two is wrong, the second claps then. */
+    private static void stirFromZAsItIsNow() {
+        HiredClaque x = guests(9, 4);
+        x.set(3, 99);
+        int[] seeds = {1, 0, 3, -7, 1 << 20, Integer.MIN_VALUE, Integer.MAX_VALUE};
+        int differ = 0;
+        for (int kept : seeds) {
+            for (int seed : seeds) {
+                x.seed(kept);
+                x.keep();
+                x.seed(seed);
+                int first = seed * 1103515245 + 12345;
+                int second = first * 1103515245 + 12345;
+                int due = (first >>> 16) % 2 == 0 && (second >>> 16) % 100 < 99 ? 1 : 0;
+                Due.eq("Terms 2: stir from z " + seed, x.stir(1), due);
+                differ |= 1 << due;
+            }
+        }
+        Due.eq("Terms 2: some more, some not", differ, 3);
     }
 
     // ---- ODDS, HOPE
